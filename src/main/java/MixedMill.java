@@ -1,0 +1,1052 @@
+import java.util.Arrays;
+
+/** A mill that stops if two sacks of one kind are poured one after the other. */
+public final class MixedMill {
+    public static final int BAD = -1, NO = -2, FULL = -3, NONE = -4;
+
+    private static final int KINDS = 5;
+    private static final int OWNERS = 5;
+    private static final int SIZE_MOST = 9;
+    private static final int SACKS_TOLD = 8;
+    private static final int SACKS_MOST = 10;
+    private static final int TEXT_MOST = 300;
+    private static final int UNDO_MOST = 8;
+    private static final int KEPT_MOST = 2;
+    private static final int LAW_ONE = 0;
+    private static final int LAW_TWO = 1;
+    private static final int PRICE_UNTOLD = 5;
+    private static final int WAITS = 0;
+    private static final int POURED = 1;
+    private static final int SOLD = 2;
+    /** Stands where a kind would, as long as no sack was poured there. */
+    private static final int NOTHING = KINDS;
+    /** The last kind and the one ahead of it are one number below SPAN * SPAN. */
+    private static final int SPAN = KINDS + 1;
+    private static final int MEMORIES = SPAN * SPAN;
+    /** An hour that no mill reaches. */
+    private static final int NEVER = 1000000;
+    private static final int YEAR_DRAWS = 9999;
+    private static final int YEAR_SACKS = 100;
+
+    private final byte[] text;
+    private int textLength;
+    private final Reader reader;
+    /** What the text tells is read into this one first, so that a fault changes nothing. */
+    private final Mill told;
+    private final Mill mill;
+    private final Mill[] past;
+    private int pastCount;
+    private final Mill[] kept;
+    private int keptCount;
+    private final int[] line;
+    private int lineLength;
+    private final Ahead ahead;
+    private final Hours hours;
+    private final Pairs pairs;
+
+    public MixedMill() {
+        text = new byte[TEXT_MOST];
+        reader = new Reader();
+        told = new Mill();
+        mill = new Mill();
+        past = new Mill[UNDO_MOST];
+        for (int p = 0; p < UNDO_MOST; p++) {
+            past[p] = new Mill();
+        }
+        kept = new Mill[KEPT_MOST];
+        for (int k = 0; k < KEPT_MOST; k++) {
+            kept[k] = new Mill();
+        }
+        line = new int[SACKS_MOST];
+        ahead = new Ahead();
+        hours = new Hours();
+        pairs = new Pairs();
+        mill.add(0, 2, 0, 0);
+        mill.add(1, 3, 1, 0);
+        mill.add(0, 1, 0, 5);
+    }
+
+    // ---- mills
+
+    public int write(int n, long v) {
+        if (n < 1 || n > 8) {
+            return BAD;
+        }
+        if (textLength + n > TEXT_MOST) {
+            return FULL;
+        }
+        for (int b = n - 1; b >= 0; b--) {
+            text[textLength] = (byte) (v >> (8 * b));
+            textLength++;
+        }
+        return textLength;
+    }
+
+    public int wipe() {
+        int length = textLength;
+        textLength = 0;
+        return length;
+    }
+
+    public int fault() {
+        return reader.read(text, textLength, told);
+    }
+
+    public int lay() {
+        if (reader.read(text, textLength, told) != NONE || told.sacks == 0) {
+            return NO;
+        }
+        mill.copyFrom(told);
+        lineLength = 0;
+        pastCount = 0;
+        keptCount = 0;
+        return mill.sacks;
+    }
+
+    public int sack(int i, int what) {
+        if (!mill.has(i)) {
+            return BAD;
+        }
+        switch (what) {
+            case 0: return mill.kind[i];
+            case 1: return mill.size[i];
+            case 2: return mill.owner[i];
+            case 3: return mill.comes[i];
+            case 4: return mill.state[i];
+            default: return BAD;
+        }
+    }
+
+    // ---- pouring
+
+    public int may(int i) {
+        if (!mill.has(i)) {
+            return BAD;
+        }
+        if (!mill.waits(i)) {
+            return NO;
+        }
+        return mill.fitsNow(i) ? 1 : 0;
+    }
+
+    public int pour(int i) {
+        if (!mill.has(i)) {
+            return BAD;
+        }
+        if (!mill.waits(i) || !mill.fitsNow(i)) {
+            return NO;
+        }
+        remember();
+        lineLength = 0;
+        mill.setPoured(i);
+        return mill.hour;
+    }
+
+    public int halve(int i, int s) {
+        if (!mill.has(i) || s < 1 || s >= SIZE_MOST) {
+            return BAD;
+        }
+        if (!mill.waits(i) || mill.size[i] <= s) {
+            return NO;
+        }
+        if (mill.sacks >= SACKS_MOST) {
+            return FULL;
+        }
+        remember();
+        mill.part(i, s);
+        return mill.sacks - 1;
+    }
+
+    public int sell(int i) {
+        if (!mill.has(i)) {
+            return BAD;
+        }
+        if (!mill.waits(i)) {
+            return NO;
+        }
+        remember();
+        lineLength = 0;
+        mill.state[i] = SOLD;
+        return mill.size[i];
+    }
+
+    public int undo() {
+        if (pastCount <= 0) {
+            return NO;
+        }
+        pastCount--;
+        mill.copyFrom(past[pastCount]);
+        lineLength = 0;
+        return pastCount;
+    }
+
+    public int cost() {
+        return mill.spent;
+    }
+
+    /** Keeps the mill as it is for undo; the oldest one makes room, if there is none. */
+    private void remember() {
+        if (pastCount >= UNDO_MOST) {
+            Mill oldest = past[0];
+            for (int p = 1; p < UNDO_MOST; p++) {
+                past[p - 1] = past[p];
+            }
+            past[UNDO_MOST - 1] = oldest;
+            pastCount = UNDO_MOST - 1;
+        }
+        past[pastCount].copyFrom(mill);
+        pastCount++;
+    }
+
+    // ---- queues
+
+    public int queue(int i) {
+        if (!mill.has(i)) {
+            return BAD;
+        }
+        if (!mill.waits(i) || isInLine(i) || lineLength >= SACKS_MOST) {
+            return NO;
+        }
+        line[lineLength] = i;
+        lineLength++;
+        return lineLength;
+    }
+
+    public int noQueue() {
+        int length = lineLength;
+        lineLength = 0;
+        return length;
+    }
+
+    public int stops(int what) {
+        switch (what) {
+            case 0: return stopPlace() < lineLength ? stopPlace() : NONE;
+            case 1: return lineEnds();
+            case 2: return bread();
+            default: return BAD;
+        }
+    }
+
+    private boolean isInLine(int i) {
+        for (int p = 0; p < lineLength; p++) {
+            if (line[p] == i) {
+                return true;
+            }
+        }
+        return false;
+    }
+
+    /** The place in the line at which the mill stops; the line's length, if at none. */
+    private int stopPlace() {
+        int last = mill.last;
+        int before = mill.before;
+        for (int p = 0; p < lineLength; p++) {
+            int kind = mill.kindOf(line[p]);
+            if (!fits(mill.law, kind, last, before)) {
+                return p;
+            }
+            before = last;
+            last = kind;
+        }
+        return lineLength;
+    }
+
+    private int lineEnds() {
+        int stop = stopPlace();
+        int hour = mill.hour;
+        for (int p = 0; p < stop; p++) {
+            hour = mill.hourAfter(hour, line[p]);
+        }
+        return hour;
+    }
+
+    private int bread() {
+        int places = 0;
+        for (int p = 2; p < lineLength; p++) {
+            int a = mill.kindOf(line[p - 2]);
+            int b = mill.kindOf(line[p - 1]);
+            int c = mill.kindOf(line[p]);
+            if (a != b && b != c && a != c) {
+                places++;
+            }
+        }
+        return places;
+    }
+
+    // ---- orders
+
+    public long orders() {
+        ahead.takeAll(mill);
+        return ahead.countWays(mill);
+    }
+
+    public int most(int i) {
+        if (i < -2) {
+            return BAD;
+        }
+        ahead.takeAll(mill);
+        int longest = ahead.longest(mill);
+        if (i == -1) {
+            return longest;
+        }
+        if (i == -2) {
+            return hours.soonest(mill, longest);
+        }
+        return i < longest ? ahead.rowSack(mill, i) : NONE;
+    }
+
+    public int halvings() {
+        if (mill.law == LAW_TWO) {
+            return NO;
+        }
+        return ahead.fewestHalvings(mill);
+    }
+
+    public int more(int kind) {
+        if (!isKind(kind)) {
+            return BAD;
+        }
+        ahead.takeAll(mill);
+        int without = ahead.longest(mill);
+        ahead.addOne(kind);
+        return ahead.longest(mill) - without;
+    }
+
+    public int lacks(int kind) {
+        if (!isKind(kind)) {
+            return BAD;
+        }
+        ahead.takeAll(mill);
+        int with = ahead.longest(mill);
+        ahead.dropKind(kind);
+        return with - ahead.longest(mill);
+    }
+
+    // ---- owners
+
+    public int together(int i) {
+        if (i != -1 && !isOwner(i)) {
+            return BAD;
+        }
+        pairs.find(mill, ahead);
+        return i == -1 ? pairs.bestCount : pairs.partnerOf(i);
+    }
+
+    public int grows(int owner) {
+        if (!isOwner(owner)) {
+            return BAD;
+        }
+        if (!mill.isWaitedFor(owner)) {
+            return NONE;
+        }
+        int best = NONE;
+        int greatest = -1;
+        for (int kind = 0; kind < KINDS; kind++) {
+            ahead.takeGrown(mill, owner, kind);
+            int longest = ahead.longest(mill);
+            if (longest > greatest) {
+                greatest = longest;
+                best = kind;
+            }
+        }
+        return best;
+    }
+
+    public int twoMills(int what) {
+        if (what != 0 && what != 1) {
+            return BAD;
+        }
+        if (!hours.partBetweenTwo(mill)) {
+            return NONE;
+        }
+        return what == 0 ? hours.bothDone : hours.partHere;
+    }
+
+    // ---- years
+
+    public int year(int z, int n, int what) {
+        if (z < 0 || z > YEAR_DRAWS || n < 1 || n > YEAR_SACKS || what < 0 || what > 1) {
+            return BAD;
+        }
+        Year year = new Year(mill.law);
+        for (int k = 0; k < n; k++) {
+            year.bring(drawnKind(z, k));
+        }
+        return what == 0 ? year.poured : n - year.poured;
+    }
+
+    public int keep() {
+        if (keptCount >= KEPT_MOST) {
+            return FULL;
+        }
+        kept[keptCount].copyFrom(mill);
+        keptCount++;
+        return keptCount;
+    }
+
+    public int back() {
+        if (keptCount <= 0) {
+            return NO;
+        }
+        keptCount--;
+        mill.copyFrom(kept[keptCount]);
+        lineLength = 0;
+        pastCount = 0;
+        return keptCount;
+    }
+
+    public int count(int what) {
+        switch (what) {
+            case 0: return mill.sacks;
+            case 1: return mill.howMany(WAITS);
+            case 2: return mill.howMany(POURED);
+            case 3: return mill.hour;
+            case 4: return lineLength;
+            case 5: return pastCount;
+            case 6: return keptCount;
+            case 7: return textLength;
+            default: return BAD;
+        }
+    }
+
+    private static int drawnKind(int z, int k) {
+        long x = 7919L * z + 6151L * k + 1;
+        return (int) (x * x % 65521 % KINDS);
+    }
+
+    private static boolean isKind(int kind) {
+        return kind >= 0 && kind < KINDS;
+    }
+
+    private static boolean isOwner(int owner) {
+        return owner >= 0 && owner < OWNERS;
+    }
+
+    private static boolean fits(int law, int kind, int last, int before) {
+        return kind != last && (law == LAW_ONE || kind != before);
+    }
+
+    /** What a mill holds on to of what was poured: under ONE the last kind alone. */
+    private static int memory(int law, int last, int before) {
+        return last * SPAN + (law == LAW_ONE ? NOTHING : before);
+    }
+
+    /** Grows at least twofold, so that all rows an object ever makes stay few and small. */
+    private static int[] roomFor(int[] row, int length) {
+        return row.length >= length ? row : new int[Math.max(length, 2 * row.length)];
+    }
+
+    /** The sacks, how they are, and what the mill holds on to. */
+    private static final class Mill {
+        private int law;
+        private int price;
+        private int sacks;
+        private final int[] kind = new int[SACKS_MOST];
+        private final int[] size = new int[SACKS_MOST];
+        private final int[] owner = new int[SACKS_MOST];
+        private final int[] comes = new int[SACKS_MOST];
+        private final int[] state = new int[SACKS_MOST];
+        private int hour;
+        private int last;
+        private int before;
+        private int spent;
+
+        private Mill() {
+            clear();
+        }
+
+        private void clear() {
+            law = LAW_ONE;
+            price = PRICE_UNTOLD;
+            sacks = 0;
+            hour = 0;
+            last = NOTHING;
+            before = NOTHING;
+            spent = 0;
+        }
+
+        private void copyFrom(Mill other) {
+            law = other.law;
+            price = other.price;
+            sacks = other.sacks;
+            System.arraycopy(other.kind, 0, kind, 0, SACKS_MOST);
+            System.arraycopy(other.size, 0, size, 0, SACKS_MOST);
+            System.arraycopy(other.owner, 0, owner, 0, SACKS_MOST);
+            System.arraycopy(other.comes, 0, comes, 0, SACKS_MOST);
+            System.arraycopy(other.state, 0, state, 0, SACKS_MOST);
+            hour = other.hour;
+            last = other.last;
+            before = other.before;
+            spent = other.spent;
+        }
+
+        private void add(int itsKind, int itsSize, int itsOwner, int itsHour) {
+            if (sacks >= SACKS_MOST) {
+                return;
+            }
+            kind[sacks] = itsKind;
+            size[sacks] = itsSize;
+            owner[sacks] = itsOwner;
+            comes[sacks] = itsHour;
+            state[sacks] = WAITS;
+            sacks++;
+        }
+
+        private boolean has(int i) {
+            return i >= 0 && i < sacks && i < SACKS_MOST;
+        }
+
+        private boolean waits(int i) {
+            return has(i) && state[i] == WAITS;
+        }
+
+        private int kindOf(int i) {
+            return has(i) ? kind[i] : NOTHING;
+        }
+
+        private boolean fitsNow(int i) {
+            return fits(law, kindOf(i), last, before);
+        }
+
+        /** When sack i is through, if the one ahead of it was at this hour. */
+        private int hourAfter(int from, int i) {
+            return has(i) ? Math.max(from, comes[i]) + size[i] : from;
+        }
+
+        private void setPoured(int i) {
+            if (!has(i)) {
+                return;
+            }
+            hour = hourAfter(hour, i);
+            before = last;
+            last = kind[i];
+            state[i] = POURED;
+        }
+
+        private void part(int i, int s) {
+            if (!has(i)) {
+                return;
+            }
+            add(kind[i], s, owner[i], comes[i]);
+            size[i] -= s;
+            spent += price;
+        }
+
+        private int howMany(int how) {
+            int found = 0;
+            for (int i = 0; i < sacks; i++) {
+                if (state[i] == how) {
+                    found++;
+                }
+            }
+            return found;
+        }
+
+        private boolean isWaitedFor(int who) {
+            for (int i = 0; i < sacks; i++) {
+                if (waits(i) && owner[i] == who) {
+                    return true;
+                }
+            }
+            return false;
+        }
+    }
+
+    /** Reads a text, item by item. */
+    private static final class Reader {
+        private static final int NUMBERS_MOST = 4;
+
+        private final int[] number = new int[NUMBERS_MOST];
+        private int place;
+
+        /** Reads all into a mill: the place of the first item with a fault, or NONE. */
+        private int read(byte[] bytes, int length, Mill into) {
+            into.clear();
+            place = 0;
+            for (int items = 0; items < TEXT_MOST && place < length; items++) {
+                int start = place;
+                if (!readItem(bytes, length, into)) {
+                    return start;
+                }
+            }
+            return NONE;
+        }
+
+        private boolean readItem(byte[] bytes, int length, Mill into) {
+            if (place >= length || place >= bytes.length) {
+                return false;
+            }
+            int letter = bytes[place];
+            place++;
+            switch (letter) {
+                case 's': return readNumbers(bytes, length, 4) && takeSack(into);
+                case 'l': return readNumbers(bytes, length, 1) && takeLaw(into);
+                case 'c': return readNumbers(bytes, length, 1) && takePrice(into);
+                default: return false;
+            }
+        }
+
+        private boolean readNumbers(byte[] bytes, int length, int wanted) {
+            for (int k = 0; k < wanted && k < NUMBERS_MOST; k++) {
+                number[k] = readNumber(bytes, length);
+                int sign = k + 1 < wanted ? ',' : ';';
+                if (number[k] < 0 || !isSign(bytes, length, sign)) {
+                    return false;
+                }
+                place++;
+            }
+            return true;
+        }
+
+        /** A number of one or two figures; below 0, if there is none. */
+        private int readNumber(byte[] bytes, int length) {
+            int value = -1;
+            for (int figures = 0; figures < 2 && isFigure(bytes, length); figures++) {
+                value = Math.max(value, 0) * 10 + (bytes[place] - '0');
+                place++;
+            }
+            return value;
+        }
+
+        private boolean isFigure(byte[] bytes, int length) {
+            return place < length && place < bytes.length && bytes[place] >= '0' && bytes[place] <= '9';
+        }
+
+        private boolean isSign(byte[] bytes, int length, int sign) {
+            return place < length && place < bytes.length && bytes[place] == sign;
+        }
+
+        private boolean takeSack(Mill into) {
+            if (into.sacks >= SACKS_TOLD || !isKind(number[0]) || !isOwner(number[2])
+                    || number[1] < 1 || number[1] > SIZE_MOST) {
+                return false;
+            }
+            into.add(number[0], number[1], number[2], number[3]);
+            return true;
+        }
+
+        private boolean takeLaw(Mill into) {
+            if (number[0] != LAW_ONE && number[0] != LAW_TWO) {
+                return false;
+            }
+            into.law = number[0];
+            return true;
+        }
+
+        private boolean takePrice(Mill into) {
+            into.price = number[0];
+            return true;
+        }
+    }
+
+    /**
+     * What can be poured from now on, by how many sacks there are of each kind.
+     * How many are left of each kind is one number, the index: left[k] * weight[k] together.
+     * For each index and each memory a row holds the answer; fewer sacks have a lower index.
+     */
+    private static final class Ahead {
+        private final int[] amount = new int[KINDS];
+        private final int[] weight = new int[KINDS];
+        private final int[] left = new int[KINDS];
+        private int indexes;
+        private int[] far = new int[0];
+        private int[] ways = new int[0];
+
+        private void takeNone() {
+            Arrays.fill(amount, 0);
+        }
+
+        private void addOne(int kind) {
+            if (isKind(kind)) {
+                amount[kind]++;
+            }
+        }
+
+        private void dropKind(int kind) {
+            if (isKind(kind)) {
+                amount[kind] = 0;
+            }
+        }
+
+        private void takeAll(Mill mill) {
+            takeNone();
+            for (int i = 0; i < mill.sacks; i++) {
+                if (mill.waits(i)) {
+                    addOne(mill.kindOf(i));
+                }
+            }
+        }
+
+        private void takeOwners(Mill mill, int one, int other) {
+            takeNone();
+            for (int i = 0; i < mill.sacks; i++) {
+                if (mill.waits(i) && (mill.owner[i] == one || mill.owner[i] == other)) {
+                    addOne(mill.kindOf(i));
+                }
+            }
+        }
+
+        private void takeGrown(Mill mill, int owner, int kind) {
+            takeNone();
+            for (int i = 0; i < mill.sacks; i++) {
+                if (mill.waits(i)) {
+                    addOne(mill.owner[i] == owner ? kind : mill.kindOf(i));
+                }
+            }
+        }
+
+        private int total() {
+            int sum = 0;
+            for (int k = 0; k < KINDS; k++) {
+                sum += amount[k];
+            }
+            return sum;
+        }
+
+        private void weigh() {
+            indexes = 1;
+            for (int k = 0; k < KINDS; k++) {
+                weight[k] = indexes;
+                indexes *= amount[k] + 1;
+            }
+        }
+
+        private void unfold(int index) {
+            int rest = index;
+            for (int k = KINDS - 1; k >= 0; k--) {
+                left[k] = weight[k] > 0 ? rest / weight[k] : 0;
+                rest -= left[k] * weight[k];
+            }
+        }
+
+        /** How many of the sacks taken can be poured, at the most. */
+        private int longest(Mill mill) {
+            weigh();
+            far = roomFor(far, indexes * MEMORIES);
+            for (int index = 0; index < indexes; index++) {
+                unfold(index);
+                fillFar(index, mill.law);
+            }
+            return farAt(indexes - 1, memory(mill.law, mill.last, mill.before));
+        }
+
+        private void fillFar(int index, int law) {
+            for (int last = 0; last < SPAN; last++) {
+                for (int before = firstBefore(law); before < SPAN; before++) {
+                    int best = 0;
+                    for (int k = 0; k < KINDS; k++) {
+                        if (left[k] > 0 && fits(law, k, last, before)) {
+                            best = Math.max(best, 1 + farAt(index - weight[k], memory(law, k, last)));
+                        }
+                    }
+                    far[index * MEMORIES + last * SPAN + before] = best;
+                }
+            }
+        }
+
+        private int farAt(int index, int memory) {
+            int place = index * MEMORIES + memory;
+            return place >= 0 && place < far.length ? far[place] : 0;
+        }
+
+        /** In how many orders of kinds all of the sacks taken can be poured. */
+        private long countWays(Mill mill) {
+            weigh();
+            ways = roomFor(ways, indexes * MEMORIES);
+            for (int index = 0; index < indexes; index++) {
+                unfold(index);
+                fillWays(index, mill.law);
+            }
+            return waysAt(indexes - 1, memory(mill.law, mill.last, mill.before));
+        }
+
+        private void fillWays(int index, int law) {
+            for (int last = 0; last < SPAN; last++) {
+                for (int before = firstBefore(law); before < SPAN; before++) {
+                    int sum = index == 0 ? 1 : 0;
+                    for (int k = 0; k < KINDS; k++) {
+                        if (left[k] > 0 && fits(law, k, last, before)) {
+                            sum += waysAt(index - weight[k], memory(law, k, last));
+                        }
+                    }
+                    ways[index * MEMORIES + last * SPAN + before] = sum;
+                }
+            }
+        }
+
+        private int waysAt(int index, int memory) {
+            int place = index * MEMORIES + memory;
+            return place >= 0 && place < ways.length ? ways[place] : 0;
+        }
+
+        /** Under ONE a memory never holds a kind ahead of the last one. */
+        private static int firstBefore(int law) {
+            return law == LAW_ONE ? NOTHING : 0;
+        }
+
+        /** The wanted sack of the first row of most sacks; longest must have been asked just now. */
+        private int rowSack(Mill mill, int wanted) {
+            int last = mill.last;
+            int before = mill.before;
+            int index = indexes - 1;
+            int used = 0;
+            int found = NONE;
+            for (int step = 0; step <= wanted && step < SACKS_MOST; step++) {
+                found = nextInRow(mill, used, index, last, before);
+                int kind = mill.kindOf(found);
+                if (!isKind(kind)) {
+                    return NONE;
+                }
+                used |= 1 << found;
+                index -= weight[kind];
+                before = last;
+                last = kind;
+            }
+            return found;
+        }
+
+        /** The lowest sack behind which as many as ever can be poured still can. */
+        private int nextInRow(Mill mill, int used, int index, int last, int before) {
+            int rest = farAt(index, memory(mill.law, last, before));
+            for (int i = 0; i < mill.sacks; i++) {
+                int kind = mill.kindOf(i);
+                if (mill.waits(i) && (used >> i & 1) == 0 && isKind(kind)
+                        && fits(mill.law, kind, last, before)
+                        && 1 + farAt(index - weight[kind], memory(mill.law, kind, last)) == rest) {
+                    return i;
+                }
+            }
+            return NONE;
+        }
+
+        /**
+         * By ONE all can be poured, if no kind has more sacks than the others and one,
+         * or than the others, if it was poured last. No two kinds can be too many at once,
+         * and halving as many of the others as are short makes none of them too many.
+         */
+        private int fewestHalvings(Mill mill) {
+            takeAll(mill);
+            int all = total();
+            for (int k = 0; k < KINDS; k++) {
+                int others = all - amount[k];
+                int wanted = k == mill.last ? amount[k] : amount[k] - 1;
+                if (wanted > others) {
+                    return wanted <= sizesBeside(mill, k) ? wanted - others : NONE;
+                }
+            }
+            return 0;
+        }
+
+        /** Into how many sacks all that wait of other kinds can be halved. */
+        private static int sizesBeside(Mill mill, int kind) {
+            int sum = 0;
+            for (int i = 0; i < mill.sacks; i++) {
+                if (mill.waits(i) && mill.kind[i] != kind) {
+                    sum += mill.size[i];
+                }
+            }
+            return sum;
+        }
+    }
+
+    /**
+     * The least hours by which sets of the sacks that wait can be poured.
+     * Bit j of a set is the j-th sack that waits.
+     */
+    private static final class Hours {
+        private final int[] waiting = new int[SACKS_MOST];
+        private int waitingCount;
+        private int sets;
+        /** By set and memory: a later hour with the same memory is never of use. */
+        private int[] least = new int[0];
+        private int[] here = new int[0];
+        private int[] there = new int[0];
+        private int bothDone;
+        private int partHere;
+
+        /** The least hour at which so many can have been poured. */
+        private int soonest(Mill mill, int many) {
+            findWaiting(mill);
+            here = roomFor(here, sets);
+            fillEnds(mill, mill.hour, memory(mill.law, mill.last, mill.before), here);
+            int best = NEVER;
+            for (int set = 0; set < sets && set < here.length; set++) {
+                if (Integer.bitCount(set) == many) {
+                    best = Math.min(best, here[set]);
+                }
+            }
+            return best;
+        }
+
+        /** Whether all can be parted between this mill and an unused one; finds the best way. */
+        private boolean partBetweenTwo(Mill mill) {
+            findWaiting(mill);
+            here = roomFor(here, sets);
+            there = roomFor(there, sets);
+            fillEnds(mill, mill.hour, memory(mill.law, mill.last, mill.before), here);
+            fillEnds(mill, 0, memory(mill.law, NOTHING, NOTHING), there);
+            bothDone = NEVER;
+            partHere = 0;
+            for (int set = 0; set < sets && set < here.length && set < there.length; set++) {
+                int done = Math.max(here[set], there[sets - 1 - set]);
+                if (done < bothDone) {
+                    bothDone = done;
+                    partHere = sackBits(set);
+                }
+            }
+            return bothDone < NEVER;
+        }
+
+        private void findWaiting(Mill mill) {
+            waitingCount = 0;
+            for (int i = 0; i < mill.sacks && waitingCount < SACKS_MOST; i++) {
+                if (mill.waits(i)) {
+                    waiting[waitingCount] = i;
+                    waitingCount++;
+                }
+            }
+            sets = 1 << waitingCount;
+        }
+
+        private int sackBits(int set) {
+            int bits = 0;
+            for (int j = 0; j < waitingCount; j++) {
+                if ((set >> j & 1) != 0) {
+                    bits |= 1 << waiting[j];
+                }
+            }
+            return bits;
+        }
+
+        /** For each set the least hour when just it is poured; NEVER, if it can't be. */
+        private void fillEnds(Mill mill, int hour, int start, int[] ends) {
+            least = roomFor(least, sets * MEMORIES);
+            Arrays.fill(least, 0, sets * MEMORIES, NEVER);
+            if (start >= 0 && start < MEMORIES) {
+                least[start] = hour;
+            }
+            for (int set = 0; set < sets && set < ends.length; set++) {
+                ends[set] = NEVER;
+                for (int memory = 0; memory < MEMORIES; memory++) {
+                    int reached = least[set * MEMORIES + memory];
+                    if (reached < NEVER) {
+                        ends[set] = Math.min(ends[set], reached);
+                        pourOneMore(mill, set, memory / SPAN, memory % SPAN, reached);
+                    }
+                }
+            }
+        }
+
+        private void pourOneMore(Mill mill, int set, int last, int before, int reached) {
+            for (int j = 0; j < waitingCount; j++) {
+                int kind = mill.kindOf(waiting[j]);
+                if ((set >> j & 1) == 0 && fits(mill.law, kind, last, before)) {
+                    int place = (set | 1 << j) * MEMORIES + memory(mill.law, kind, last);
+                    if (place >= 0 && place < least.length) {
+                        least[place] = Math.min(least[place], mill.hourAfter(reached, waiting[j]));
+                    }
+                }
+            }
+        }
+    }
+
+    /** Which owners should come together. */
+    private static final class Pairs {
+        private final boolean[] pairable = new boolean[OWNERS * OWNERS];
+        private final int[] partner = new int[OWNERS];
+        private final int[] best = new int[OWNERS];
+        private int bestCount;
+
+        private void find(Mill mill, Ahead ahead) {
+            for (int one = 0; one < OWNERS; one++) {
+                for (int other = one + 1; other < OWNERS; other++) {
+                    pairable[one * OWNERS + other] = isPair(mill, ahead, one, other);
+                }
+            }
+            Arrays.fill(partner, NONE);
+            bestCount = -1;
+            choose(0, 0);
+        }
+
+        private static boolean isPair(Mill mill, Ahead ahead, int one, int other) {
+            if (!mill.isWaitedFor(one) || !mill.isWaitedFor(other)) {
+                return false;
+            }
+            ahead.takeOwners(mill, one, other);
+            return ahead.longest(mill) == ahead.total();
+        }
+
+        /** Goes through the ways in their order, so that only one of more pairs is better. */
+        private void choose(int owner, int count) {
+            if (owner >= OWNERS) {
+                if (count > bestCount) {
+                    bestCount = count;
+                    System.arraycopy(partner, 0, best, 0, OWNERS);
+                }
+                return;
+            }
+            if (partner[owner] == NONE) {
+                for (int other = owner + 1; other < OWNERS; other++) {
+                    if (partner[other] == NONE && pairable[owner * OWNERS + other]) {
+                        partner[owner] = other;
+                        partner[other] = owner;
+                        choose(owner + 1, count + 1);
+                        partner[owner] = NONE;
+                        partner[other] = NONE;
+                    }
+                }
+            }
+            choose(owner + 1, count);
+        }
+
+        private int partnerOf(int owner) {
+            return isOwner(owner) ? best[owner] : NONE;
+        }
+    }
+
+    /** A year at a mill at which nothing was poured. */
+    private static final class Year {
+        private final int law;
+        private final int[] putBy = new int[KINDS];
+        private int last = NOTHING;
+        private int before = NOTHING;
+        private int poured;
+
+        private Year(int law) {
+            this.law = law;
+        }
+
+        private void bring(int kind) {
+            if (!isKind(kind)) {
+                return;
+            }
+            if (!fits(law, kind, last, before)) {
+                putBy[kind]++;
+                return;
+            }
+            take(kind);
+            int next = lowestPutBy();
+            for (int more = 0; more < YEAR_SACKS && isKind(next); more++) {
+                putBy[next]--;
+                take(next);
+                next = lowestPutBy();
+            }
+        }
+
+        private void take(int kind) {
+            before = last;
+            last = kind;
+            poured++;
+        }
+
+        /** The lowest kind put by that may be poured, or NONE. */
+        private int lowestPutBy() {
+            for (int k = 0; k < KINDS; k++) {
+                if (putBy[k] > 0 && fits(law, k, last, before)) {
+                    return k;
+                }
+            }
+            return NONE;
+        }
+    }
+}
