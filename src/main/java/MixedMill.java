@@ -220,7 +220,7 @@ public final class MixedMill {
 
     public int stops(int what) {
         switch (what) {
-            case 0: return stopPlace() < lineLength ? stopPlace() : NONE;
+            case 0: return stopsNowhere() ? NONE : stopPlace();
             case 1: return lineEnds();
             case 2: return bread();
             default: return BAD;
@@ -249,6 +249,10 @@ public final class MixedMill {
             last = kind;
         }
         return lineLength;
+    }
+
+    private boolean stopsNowhere() {
+        return stopPlace() >= lineLength;
     }
 
     private int lineEnds() {
@@ -368,11 +372,11 @@ public final class MixedMill {
         if (z < 0 || z > YEAR_DRAWS || n < 1 || n > YEAR_SACKS || what < 0 || what > 1) {
             return BAD;
         }
-        Year year = new Year(mill.law);
+        Year drawn = new Year(mill.law);
         for (int k = 0; k < n; k++) {
-            year.bring(drawnKind(z, k));
+            drawn.bring(drawnKind(z, k));
         }
-        return what == 0 ? year.poured : n - year.poured;
+        return what == 0 ? drawn.poured : n - drawn.poured;
     }
 
     public int keep() {
@@ -427,7 +431,7 @@ public final class MixedMill {
     }
 
     /** What a mill holds on to of what was poured: under ONE the last kind alone. */
-    private static int memory(int law, int last, int before) {
+    private static int memoryOf(int law, int last, int before) {
         return last * SPAN + (law == LAW_ONE ? NOTHING : before);
     }
 
@@ -508,6 +512,10 @@ public final class MixedMill {
             return fits(law, kindOf(i), last, before);
         }
 
+        private int memoryNow() {
+            return memoryOf(law, last, before);
+        }
+
         /** When sack i is through, if the one ahead of it was at this hour. */
         private int hourAfter(int from, int i) {
             return has(i) ? Math.max(from, comes[i]) + size[i] : from;
@@ -534,8 +542,8 @@ public final class MixedMill {
 
         private int howMany(int how) {
             int found = 0;
-            for (int i = 0; i < sacks; i++) {
-                if (state[i] == how) {
+            for (int i = 0; i < SACKS_MOST; i++) {
+                if (has(i) && state[i] == how) {
                     found++;
                 }
             }
@@ -543,7 +551,7 @@ public final class MixedMill {
         }
 
         private boolean isWaitedFor(int who) {
-            for (int i = 0; i < sacks; i++) {
+            for (int i = 0; i < SACKS_MOST; i++) {
                 if (waits(i) && owner[i] == who) {
                     return true;
                 }
@@ -642,15 +650,14 @@ public final class MixedMill {
     /**
      * What can be poured from now on, by how many sacks there are of each kind.
      * How many are left of each kind is one number, the index: left[k] * weight[k] together.
-     * For each index and each memory a row holds the answer; fewer sacks have a lower index.
+     * There is an answer for each index and each memory; fewer sacks have a lower index.
      */
     private static final class Ahead {
         private final int[] amount = new int[KINDS];
         private final int[] weight = new int[KINDS];
         private final int[] left = new int[KINDS];
         private int indexes;
-        private int[] far = new int[0];
-        private int[] ways = new int[0];
+        private int[] answers = new int[0];
 
         private void takeNone() {
             Arrays.fill(amount, 0);
@@ -670,7 +677,7 @@ public final class MixedMill {
 
         private void takeAll(Mill mill) {
             takeNone();
-            for (int i = 0; i < mill.sacks; i++) {
+            for (int i = 0; i < SACKS_MOST; i++) {
                 if (mill.waits(i)) {
                     addOne(mill.kindOf(i));
                 }
@@ -679,7 +686,7 @@ public final class MixedMill {
 
         private void takeOwners(Mill mill, int one, int other) {
             takeNone();
-            for (int i = 0; i < mill.sacks; i++) {
+            for (int i = 0; i < SACKS_MOST; i++) {
                 if (mill.waits(i) && (mill.owner[i] == one || mill.owner[i] == other)) {
                     addOne(mill.kindOf(i));
                 }
@@ -688,7 +695,7 @@ public final class MixedMill {
 
         private void takeGrown(Mill mill, int owner, int kind) {
             takeNone();
-            for (int i = 0; i < mill.sacks; i++) {
+            for (int i = 0; i < SACKS_MOST; i++) {
                 if (mill.waits(i)) {
                     addOne(mill.owner[i] == owner ? kind : mill.kindOf(i));
                 }
@@ -721,62 +728,44 @@ public final class MixedMill {
 
         /** How many of the sacks taken can be poured, at the most. */
         private int longest(Mill mill) {
-            weigh();
-            far = roomFor(far, indexes * MEMORIES);
-            for (int index = 0; index < indexes; index++) {
-                unfold(index);
-                fillFar(index, mill.law);
-            }
-            return farAt(indexes - 1, memory(mill.law, mill.last, mill.before));
-        }
-
-        private void fillFar(int index, int law) {
-            for (int last = 0; last < SPAN; last++) {
-                for (int before = firstBefore(law); before < SPAN; before++) {
-                    int best = 0;
-                    for (int k = 0; k < KINDS; k++) {
-                        if (left[k] > 0 && fits(law, k, last, before)) {
-                            best = Math.max(best, 1 + farAt(index - weight[k], memory(law, k, last)));
-                        }
-                    }
-                    far[index * MEMORIES + last * SPAN + before] = best;
-                }
-            }
-        }
-
-        private int farAt(int index, int memory) {
-            int place = index * MEMORIES + memory;
-            return place >= 0 && place < far.length ? far[place] : 0;
+            return fillAnswers(mill, false);
         }
 
         /** In how many orders of kinds all of the sacks taken can be poured. */
-        private long countWays(Mill mill) {
+        private int countWays(Mill mill) {
+            return fillAnswers(mill, true);
+        }
+
+        private int fillAnswers(Mill mill, boolean counting) {
             weigh();
-            ways = roomFor(ways, indexes * MEMORIES);
+            answers = roomFor(answers, indexes * MEMORIES);
             for (int index = 0; index < indexes; index++) {
                 unfold(index);
-                fillWays(index, mill.law);
-            }
-            return waysAt(indexes - 1, memory(mill.law, mill.last, mill.before));
-        }
-
-        private void fillWays(int index, int law) {
-            for (int last = 0; last < SPAN; last++) {
-                for (int before = firstBefore(law); before < SPAN; before++) {
-                    int sum = index == 0 ? 1 : 0;
-                    for (int k = 0; k < KINDS; k++) {
-                        if (left[k] > 0 && fits(law, k, last, before)) {
-                            sum += waysAt(index - weight[k], memory(law, k, last));
-                        }
+                for (int last = 0; last < SPAN; last++) {
+                    for (int before = firstBefore(mill.law); before < SPAN; before++) {
+                        int place = index * MEMORIES + last * SPAN + before;
+                        answers[place] = answer(index, mill.law, last, before, counting);
                     }
-                    ways[index * MEMORIES + last * SPAN + before] = sum;
                 }
             }
+            return answerAt(indexes - 1, mill.memoryNow());
         }
 
-        private int waysAt(int index, int memory) {
+        /** From the answers behind each kind that may come next. */
+        private int answer(int index, int law, int last, int before, boolean counting) {
+            int value = counting && index == 0 ? 1 : 0;
+            for (int k = 0; k < KINDS; k++) {
+                if (left[k] > 0 && fits(law, k, last, before)) {
+                    int behind = answerAt(index - weight[k], memoryOf(law, k, last));
+                    value = counting ? value + behind : Math.max(value, 1 + behind);
+                }
+            }
+            return value;
+        }
+
+        private int answerAt(int index, int memory) {
             int place = index * MEMORIES + memory;
-            return place >= 0 && place < ways.length ? ways[place] : 0;
+            return place >= 0 && place < answers.length ? answers[place] : 0;
         }
 
         /** Under ONE a memory never holds a kind ahead of the last one. */
@@ -807,12 +796,12 @@ public final class MixedMill {
 
         /** The lowest sack behind which as many as ever can be poured still can. */
         private int nextInRow(Mill mill, int used, int index, int last, int before) {
-            int rest = farAt(index, memory(mill.law, last, before));
-            for (int i = 0; i < mill.sacks; i++) {
+            int rest = answerAt(index, memoryOf(mill.law, last, before));
+            for (int i = 0; i < SACKS_MOST; i++) {
                 int kind = mill.kindOf(i);
                 if (mill.waits(i) && (used >> i & 1) == 0 && isKind(kind)
                         && fits(mill.law, kind, last, before)
-                        && 1 + farAt(index - weight[kind], memory(mill.law, kind, last)) == rest) {
+                        && 1 + answerAt(index - weight[kind], memoryOf(mill.law, kind, last)) == rest) {
                     return i;
                 }
             }
@@ -840,7 +829,7 @@ public final class MixedMill {
         /** Into how many sacks all that wait of other kinds can be halved. */
         private static int sizesBeside(Mill mill, int kind) {
             int sum = 0;
-            for (int i = 0; i < mill.sacks; i++) {
+            for (int i = 0; i < SACKS_MOST; i++) {
                 if (mill.waits(i) && mill.kind[i] != kind) {
                     sum += mill.size[i];
                 }
@@ -868,7 +857,7 @@ public final class MixedMill {
         private int soonest(Mill mill, int many) {
             findWaiting(mill);
             here = roomFor(here, sets);
-            fillEnds(mill, mill.hour, memory(mill.law, mill.last, mill.before), here);
+            fillEnds(mill, mill.hour, mill.memoryNow(), here);
             int best = NEVER;
             for (int set = 0; set < sets && set < here.length; set++) {
                 if (Integer.bitCount(set) == many) {
@@ -883,8 +872,8 @@ public final class MixedMill {
             findWaiting(mill);
             here = roomFor(here, sets);
             there = roomFor(there, sets);
-            fillEnds(mill, mill.hour, memory(mill.law, mill.last, mill.before), here);
-            fillEnds(mill, 0, memory(mill.law, NOTHING, NOTHING), there);
+            fillEnds(mill, mill.hour, mill.memoryNow(), here);
+            fillEnds(mill, 0, memoryOf(mill.law, NOTHING, NOTHING), there);
             bothDone = NEVER;
             partHere = 0;
             for (int set = 0; set < sets && set < here.length && set < there.length; set++) {
@@ -899,7 +888,7 @@ public final class MixedMill {
 
         private void findWaiting(Mill mill) {
             waitingCount = 0;
-            for (int i = 0; i < mill.sacks && waitingCount < SACKS_MOST; i++) {
+            for (int i = 0; i < SACKS_MOST && waitingCount < SACKS_MOST; i++) {
                 if (mill.waits(i)) {
                     waiting[waitingCount] = i;
                     waitingCount++;
@@ -921,7 +910,7 @@ public final class MixedMill {
         /** For each set the least hour when just it is poured; NEVER, if it can't be. */
         private void fillEnds(Mill mill, int hour, int start, int[] ends) {
             least = roomFor(least, sets * MEMORIES);
-            Arrays.fill(least, 0, sets * MEMORIES, NEVER);
+            Arrays.fill(least, NEVER);
             if (start >= 0 && start < MEMORIES) {
                 least[start] = hour;
             }
@@ -941,7 +930,7 @@ public final class MixedMill {
             for (int j = 0; j < waitingCount; j++) {
                 int kind = mill.kindOf(waiting[j]);
                 if ((set >> j & 1) == 0 && fits(mill.law, kind, last, before)) {
-                    int place = (set | 1 << j) * MEMORIES + memory(mill.law, kind, last);
+                    int place = (set | 1 << j) * MEMORIES + memoryOf(mill.law, kind, last);
                     if (place >= 0 && place < least.length) {
                         least[place] = Math.min(least[place], mill.hourAfter(reached, waiting[j]));
                     }
@@ -1026,7 +1015,7 @@ public final class MixedMill {
             }
             take(kind);
             int next = lowestPutBy();
-            for (int more = 0; more < YEAR_SACKS && isKind(next); more++) {
+            for (int turn = 0; turn < YEAR_SACKS && isKind(next); turn++) {
                 putBy[next]--;
                 take(next);
                 next = lowestPutBy();

@@ -1,0 +1,132 @@
+import java.util.Random;
+
+/** Random runs of calls at MixedMill and at PlainMill: every answer must be the same. */
+public final class ModelTest {
+    private static Random draws;
+    private static MixedMill mill;
+    private static PlainMill plain;
+    private static int run;
+    /** Rows of more sacks than this are too many for PlainMill to try often. */
+    private static int triedMost;
+
+    private ModelTest() { }
+
+    public static void main(String[] args) {
+        for (run = 0; run < 1200 && Check.wrongSoFar() < 20; run++) {
+            draws = new Random(run);
+            mill = new MixedMill();
+            plain = new PlainMill();
+            triedMost = run % 100 == 0 ? 10 : 7;
+            oneRun();
+        }
+        Check.end();
+    }
+
+    private static void oneRun() {
+        lookAtAll();
+        int calls = 60 + draws.nextInt(60);
+        for (int c = 0; c < calls; c++) {
+            int what = draws.nextInt(40);
+            if (what < 3) {
+                newText();
+            } else if (what < 13) {
+                int i = somethingNear(10);
+                same("pour(" + i + ")", mill.pour(i), plain.pour(i));
+            } else if (what < 18) {
+                int i = somethingNear(10);
+                int s = draws.nextInt(4) == 0 ? somethingNear(9) : 1 + draws.nextInt(3);
+                same("halve(" + i + ", " + s + ")", mill.halve(i, s), plain.halve(i, s));
+            } else if (what < 21) {
+                int i = somethingNear(10);
+                same("sell(" + i + ")", mill.sell(i), plain.sell(i));
+            } else if (what < 25) {
+                same("undo()", mill.undo(), plain.undo());
+            } else if (what < 34) {
+                int i = somethingNear(10);
+                same("queue(" + i + ")", mill.queue(i), plain.queue(i));
+            } else if (what == 34) {
+                same("noQueue()", mill.noQueue(), plain.noQueue());
+            } else if (what < 37) {
+                same("keep()", mill.keep(), plain.keep());
+            } else if (what == 37) {
+                same("back()", mill.back(), plain.back());
+            } else {
+                lookAhead();
+            }
+            lookAtAll();
+        }
+    }
+
+    private static void same(String call, long got, long want) {
+        Check.due("run " + run + ": " + call, got, want);
+    }
+
+    private static int somethingNear(int n) {
+        return draws.nextInt(n + 2) - 1;
+    }
+
+    private static void newText() {
+        same("wipe()", mill.wipe(), plain.wipe());
+        StringBuilder text = new StringBuilder();
+        int sacks = draws.nextInt(12) == 0 ? 9 : draws.nextInt(9);
+        int kinds = 1 + draws.nextInt(5);
+        int latest = draws.nextInt(3) == 0 ? 99 : 12;
+        for (int s = 0; s < sacks; s++) {
+            text.append('s').append(draws.nextInt(kinds)).append(',').append(1 + draws.nextInt(9)).append(',')
+                    .append(draws.nextInt(5)).append(',').append(draws.nextInt(latest + 1)).append(';');
+            if (draws.nextInt(8) == 0) text.append('l').append(draws.nextInt(2)).append(';');
+            if (draws.nextInt(8) == 0) text.append('c').append(draws.nextInt(100)).append(';');
+        }
+        if (draws.nextBoolean()) text.append("l1;");
+        if (text.length() > 0 && draws.nextInt(4) == 0) {
+            String odd = ";,slc0123456789x ";
+            char c = draws.nextInt(6) == 0 ? (char) draws.nextInt(256) : odd.charAt(draws.nextInt(odd.length()));
+            int at = draws.nextInt(text.length());
+            if (draws.nextBoolean()) text.setCharAt(at, c); else text.insert(at, c);
+        }
+        if (text.length() > 0 && draws.nextInt(8) == 0) text.deleteCharAt(draws.nextInt(text.length()));
+        writeAll(text);
+        same("fault() of " + text, mill.fault(), plain.fault());
+        same("lay() of " + text, mill.lay(), plain.lay());
+    }
+
+    private static void writeAll(StringBuilder text) {
+        int from = 0;
+        while (from < text.length()) {
+            int n = Math.min(1 + draws.nextInt(8), text.length() - from);
+            // What stands above the bytes to be written must not matter.
+            long v = draws.nextLong();
+            for (int p = 0; p < n; p++) v = v << 8 | text.charAt(from + p);
+            same("write(" + n + ", " + v + ")", mill.write(n, v), plain.write(n, v));
+            from += n;
+        }
+    }
+
+    private static void lookAtAll() {
+        for (int i = -1; i <= 10; i++) {
+            for (int w = -1; w <= 5; w++) same("sack(" + i + ", " + w + ")", mill.sack(i, w), plain.sack(i, w));
+            same("may(" + i + ")", mill.may(i), plain.may(i));
+        }
+        for (int w = -1; w <= 8; w++) same("count(" + w + ")", mill.count(w), plain.count(w));
+        for (int w = -1; w <= 3; w++) same("stops(" + w + ")", mill.stops(w), plain.stops(w));
+        same("cost()", mill.cost(), plain.cost());
+    }
+
+    private static void lookAhead() {
+        if (plain.count(1) > triedMost) return;
+        same("orders()", mill.orders(), plain.orders());
+        for (int i = -3; i <= 10; i++) same("most(" + i + ")", mill.most(i), plain.most(i));
+        same("halvings()", mill.halvings(), plain.halvings());
+        for (int w = -1; w <= 2; w++) same("twoMills(" + w + ")", mill.twoMills(w), plain.twoMills(w));
+        int z = somethingNear(10000);
+        int n = somethingNear(101);
+        for (int w = -1; w <= 2; w++) same("year(" + z + ", " + n + ")", mill.year(z, n, w), plain.year(z, n, w));
+        if (plain.count(1) > 8) return;
+        for (int k = -2; k <= 5; k++) {
+            same("more(" + k + ")", mill.more(k), plain.more(k));
+            same("lacks(" + k + ")", mill.lacks(k), plain.lacks(k));
+            same("together(" + k + ")", mill.together(k), plain.together(k));
+            same("grows(" + k + ")", mill.grows(k), plain.grows(k));
+        }
+    }
+}

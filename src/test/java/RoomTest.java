@@ -1,0 +1,73 @@
+import java.lang.management.ManagementFactory;
+
+/** The dearest calls, 512 on one object, and many objects, make little: all live in one room. */
+public final class RoomTest {
+    /** 7.3 million elements of four bytes are 29 million; a tenth of it is left for any run. */
+    private static final long BYTES_MOST = 2900000;
+    private static final String TEN = "s0,9,0,0;s1,8,1,3;s2,7,2,0;s2,1,3,9;s3,4,4,0;s3,2,0,50;s4,1,1,99;s4,6,2,0;l1;";
+
+    private RoomTest() { }
+
+    public static void main(String[] args) {
+        Check.isTrue("512 dear calls", bytesOf(RoomTest::dearCalls) < BYTES_MOST);
+        Check.isTrue("512 years", bytesOf(RoomTest::years) < BYTES_MOST);
+        Check.isTrue("a growing mill", bytesOf(RoomTest::growing) < BYTES_MOST);
+        Check.isTrue("200 objects", bytesOf(RoomTest::objects) < BYTES_MOST);
+        Check.end();
+    }
+
+    private static long bytesOf(Runnable calls) {
+        com.sun.management.ThreadMXBean threads =
+                (com.sun.management.ThreadMXBean) ManagementFactory.getThreadMXBean();
+        calls.run();
+        long id = Thread.currentThread().getId();
+        long before = threads.getThreadAllocatedBytes(id);
+        calls.run();
+        return threads.getThreadAllocatedBytes(id) - before;
+    }
+
+    private static MixedMill ten() {
+        MixedMill x = Check.laid(TEN);
+        x.halve(0, 4);
+        x.halve(1, 4);
+        return x;
+    }
+
+    private static void dearCalls() {
+        MixedMill x = ten();
+        for (int c = 0; c < 100; c++) {
+            x.twoMills(1);
+            x.most(-2);
+            x.grows(0);
+            x.together(0);
+            x.more(0);
+        }
+    }
+
+    private static void years() {
+        MixedMill x = ten();
+        for (int c = 0; c < 512; c++) x.year(c, 100, 1);
+    }
+
+    private static void growing() {
+        MixedMill x = ten();
+        while (x.count(1) > 0) {
+            if (x.pour(x.most(0)) < 0) break;
+        }
+        for (int c = 0; c < 10; c++) {
+            x.undo();
+            x.orders();
+            x.twoMills(0);
+            x.most(-2);
+            x.more(1);
+        }
+    }
+
+    private static void objects() {
+        for (int c = 0; c < 200; c++) {
+            MixedMill x = new MixedMill();
+            x.twoMills(0);
+            x.most(-2);
+        }
+    }
+}
