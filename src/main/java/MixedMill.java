@@ -242,10 +242,10 @@ public final class MixedMill {
         int before = mill.before;
         for (int p = 0; p < lineLength; p++) {
             int kind = mill.kindOf(line[p]);
-            if (!fits(mill.law, kind, last, before)) {
+            if (!fits(kind, last, before)) {
                 return p;
             }
-            before = last;
+            before = heldBefore(mill.law, last);
             last = kind;
         }
         return lineLength;
@@ -426,13 +426,22 @@ public final class MixedMill {
         return owner >= 0 && owner < OWNERS;
     }
 
-    private static boolean fits(int law, int kind, int last, int before) {
-        return kind != last && (law == LAW_ONE || kind != before);
+    private static boolean fits(int kind, int last, int before) {
+        return kind != last && kind != before;
     }
 
-    /** What a mill holds on to of what was poured: under ONE the last kind alone. */
-    private static int memoryOf(int law, int last, int before) {
-        return last * SPAN + (law == LAW_ONE ? NOTHING : before);
+    /** The kind ahead of the last one, when the next is poured; by ONE none is held on to. */
+    private static int heldBefore(int law, int last) {
+        return law == LAW_TWO ? last : NOTHING;
+    }
+
+    /** The first that can be ahead of the last one in a memory; NOTHING always can. */
+    private static int firstBefore(int law) {
+        return law == LAW_TWO ? 0 : NOTHING;
+    }
+
+    private static int memoryOf(int last, int before) {
+        return last * SPAN + before;
     }
 
     /** Grows at least twofold, so that all rows an object ever makes stay few and small. */
@@ -509,11 +518,11 @@ public final class MixedMill {
         }
 
         private boolean fitsNow(int i) {
-            return fits(law, kindOf(i), last, before);
+            return fits(kindOf(i), last, before);
         }
 
         private int memoryNow() {
-            return memoryOf(law, last, before);
+            return memoryOf(last, before);
         }
 
         /** When sack i is through, if the one ahead of it was at this hour. */
@@ -526,7 +535,7 @@ public final class MixedMill {
                 return;
             }
             hour = hourAfter(hour, i);
-            before = last;
+            before = heldBefore(law, last);
             last = kind[i];
             state[i] = POURED;
         }
@@ -743,7 +752,7 @@ public final class MixedMill {
                 unfold(index);
                 for (int last = 0; last < SPAN; last++) {
                     for (int before = firstBefore(mill.law); before < SPAN; before++) {
-                        int place = index * MEMORIES + last * SPAN + before;
+                        int place = index * MEMORIES + memoryOf(last, before);
                         answers[place] = answer(index, mill.law, last, before, counting);
                     }
                 }
@@ -754,9 +763,10 @@ public final class MixedMill {
         /** From the answers behind each kind that may come next. */
         private int answer(int index, int law, int last, int before, boolean counting) {
             int value = counting && index == 0 ? 1 : 0;
+            int held = heldBefore(law, last);
             for (int k = 0; k < KINDS; k++) {
-                if (left[k] > 0 && fits(law, k, last, before)) {
-                    int behind = answerAt(index - weight[k], memoryOf(law, k, last));
+                if (left[k] > 0 && fits(k, last, before)) {
+                    int behind = answerAt(index - weight[k], memoryOf(k, held));
                     value = counting ? value + behind : Math.max(value, 1 + behind);
                 }
             }
@@ -766,11 +776,6 @@ public final class MixedMill {
         private int answerAt(int index, int memory) {
             int place = index * MEMORIES + memory;
             return place >= 0 && place < answers.length ? answers[place] : 0;
-        }
-
-        /** Under ONE a memory never holds a kind ahead of the last one. */
-        private static int firstBefore(int law) {
-            return law == LAW_ONE ? NOTHING : 0;
         }
 
         /** The wanted sack of the first row of most sacks; longest must have been asked just now. */
@@ -788,7 +793,7 @@ public final class MixedMill {
                 }
                 used |= 1 << found;
                 index -= weight[kind];
-                before = last;
+                before = heldBefore(mill.law, last);
                 last = kind;
             }
             return found;
@@ -796,12 +801,13 @@ public final class MixedMill {
 
         /** The lowest sack behind which as many as ever can be poured still can. */
         private int nextInRow(Mill mill, int used, int index, int last, int before) {
-            int rest = answerAt(index, memoryOf(mill.law, last, before));
+            int rest = answerAt(index, memoryOf(last, before));
+            int held = heldBefore(mill.law, last);
             for (int i = 0; i < SACKS_MOST; i++) {
                 int kind = mill.kindOf(i);
                 if (mill.waits(i) && (used >> i & 1) == 0 && isKind(kind)
-                        && fits(mill.law, kind, last, before)
-                        && 1 + answerAt(index - weight[kind], memoryOf(mill.law, kind, last)) == rest) {
+                        && fits(kind, last, before)
+                        && 1 + answerAt(index - weight[kind], memoryOf(kind, held)) == rest) {
                     return i;
                 }
             }
@@ -843,9 +849,15 @@ public final class MixedMill {
      * Bit j of a set is the j-th sack that waits.
      */
     private static final class Hours {
-        private final int[] waiting = new int[SACKS_MOST];
-        private int waitingCount;
+        private final int[] sackAt = new int[SACKS_MOST];
+        private final int[] kind = new int[SACKS_MOST];
+        private final int[] size = new int[SACKS_MOST];
+        private final int[] comes = new int[SACKS_MOST];
+        private int waiting;
         private int sets;
+        /** Those that wait and are not in the set looked at. */
+        private final int[] rest = new int[SACKS_MOST];
+        private int restCount;
         /** By set and memory: a later hour with the same memory is never of use. */
         private int[] least = new int[0];
         private int[] here = new int[0];
@@ -855,9 +867,9 @@ public final class MixedMill {
 
         /** The least hour at which so many can have been poured. */
         private int soonest(Mill mill, int many) {
-            findWaiting(mill);
+            takeWaiting(mill);
             here = roomFor(here, sets);
-            fillEnds(mill, mill.hour, mill.memoryNow(), here);
+            fillEnds(mill.law, mill.hour, mill.memoryNow(), here);
             int best = NEVER;
             for (int set = 0; set < sets && set < here.length; set++) {
                 if (Integer.bitCount(set) == many) {
@@ -869,11 +881,11 @@ public final class MixedMill {
 
         /** Whether all can be parted between this mill and an unused one; finds the best way. */
         private boolean partBetweenTwo(Mill mill) {
-            findWaiting(mill);
+            takeWaiting(mill);
             here = roomFor(here, sets);
             there = roomFor(there, sets);
-            fillEnds(mill, mill.hour, mill.memoryNow(), here);
-            fillEnds(mill, 0, memoryOf(mill.law, NOTHING, NOTHING), there);
+            fillEnds(mill.law, mill.hour, mill.memoryNow(), here);
+            fillEnds(mill.law, 0, memoryOf(NOTHING, NOTHING), there);
             bothDone = NEVER;
             partHere = 0;
             for (int set = 0; set < sets && set < here.length && set < there.length; set++) {
@@ -886,53 +898,70 @@ public final class MixedMill {
             return bothDone < NEVER;
         }
 
-        private void findWaiting(Mill mill) {
-            waitingCount = 0;
-            for (int i = 0; i < SACKS_MOST && waitingCount < SACKS_MOST; i++) {
+        private void takeWaiting(Mill mill) {
+            waiting = 0;
+            for (int i = 0; i < SACKS_MOST && waiting < SACKS_MOST; i++) {
                 if (mill.waits(i)) {
-                    waiting[waitingCount] = i;
-                    waitingCount++;
+                    sackAt[waiting] = i;
+                    kind[waiting] = mill.kind[i];
+                    size[waiting] = mill.size[i];
+                    comes[waiting] = mill.comes[i];
+                    waiting++;
                 }
             }
-            sets = 1 << waitingCount;
+            sets = 1 << waiting;
         }
 
         private int sackBits(int set) {
             int bits = 0;
-            for (int j = 0; j < waitingCount; j++) {
+            for (int j = 0; j < waiting; j++) {
                 if ((set >> j & 1) != 0) {
-                    bits |= 1 << waiting[j];
+                    bits |= 1 << sackAt[j];
                 }
             }
             return bits;
         }
 
         /** For each set the least hour when just it is poured; NEVER, if it can't be. */
-        private void fillEnds(Mill mill, int hour, int start, int[] ends) {
+        private void fillEnds(int law, int hour, int start, int[] ends) {
             least = roomFor(least, sets * MEMORIES);
             Arrays.fill(least, NEVER);
             if (start >= 0 && start < MEMORIES) {
                 least[start] = hour;
             }
             for (int set = 0; set < sets && set < ends.length; set++) {
+                takeRest(set);
                 ends[set] = NEVER;
-                for (int memory = 0; memory < MEMORIES; memory++) {
-                    int reached = least[set * MEMORIES + memory];
-                    if (reached < NEVER) {
-                        ends[set] = Math.min(ends[set], reached);
-                        pourOneMore(mill, set, memory / SPAN, memory % SPAN, reached);
+                for (int last = 0; last < SPAN; last++) {
+                    for (int before = firstBefore(law); before < SPAN; before++) {
+                        int reached = least[set * MEMORIES + memoryOf(last, before)];
+                        if (reached < NEVER) {
+                            ends[set] = Math.min(ends[set], reached);
+                            pourOneMore(set, last, before, heldBefore(law, last), reached);
+                        }
                     }
                 }
             }
         }
 
-        private void pourOneMore(Mill mill, int set, int last, int before, int reached) {
-            for (int j = 0; j < waitingCount; j++) {
-                int kind = mill.kindOf(waiting[j]);
-                if ((set >> j & 1) == 0 && fits(mill.law, kind, last, before)) {
-                    int place = (set | 1 << j) * MEMORIES + memoryOf(mill.law, kind, last);
-                    if (place >= 0 && place < least.length) {
-                        least[place] = Math.min(least[place], mill.hourAfter(reached, waiting[j]));
+        private void takeRest(int set) {
+            restCount = 0;
+            for (int j = 0; j < waiting; j++) {
+                if ((set >> j & 1) == 0) {
+                    rest[restCount] = j;
+                    restCount++;
+                }
+            }
+        }
+
+        private void pourOneMore(int set, int last, int before, int held, int reached) {
+            for (int r = 0; r < restCount; r++) {
+                int j = rest[r];
+                if (kind[j] != last && kind[j] != before) {
+                    int place = (set | 1 << j) * MEMORIES + kind[j] * SPAN + held;
+                    int done = (comes[j] > reached ? comes[j] : reached) + size[j];
+                    if (place >= 0 && place < least.length && done < least[place]) {
+                        least[place] = done;
                     }
                 }
             }
@@ -1009,7 +1038,7 @@ public final class MixedMill {
             if (!isKind(kind)) {
                 return;
             }
-            if (!fits(law, kind, last, before)) {
+            if (!fits(kind, last, before)) {
                 putBy[kind]++;
                 return;
             }
@@ -1023,7 +1052,7 @@ public final class MixedMill {
         }
 
         private void take(int kind) {
-            before = last;
+            before = heldBefore(law, last);
             last = kind;
             poured++;
         }
@@ -1031,7 +1060,7 @@ public final class MixedMill {
         /** The lowest kind put by that may be poured, or NONE. */
         private int lowestPutBy() {
             for (int k = 0; k < KINDS; k++) {
-                if (putBy[k] > 0 && fits(law, k, last, before)) {
+                if (putBy[k] > 0 && fits(k, last, before)) {
                     return k;
                 }
             }

@@ -157,6 +157,10 @@ public final class PromiseTest {
         faultOf(times(8, "s0,1,0,0;") + "l1;s0,1,0,0;x", 75);
         faultOf(times(100, "c1;"), NONE);
         faultOf(times(99, "c1;") + "c1,", 297);
+        MixedMill x = new MixedMill();
+        Check.tell(x, "s0,1,0,0;");
+        Check.tell(x, "s0,1,0,0");
+        due("bytes that were wiped don't count", x.fault(), 0);
     }
 
     private static void lay() {
@@ -403,6 +407,13 @@ public final class PromiseTest {
         due("empty as one is sold", x.queue(2), 1);
         x.undo();
         due("empty as something is undone", x.count(4), 0);
+        MixedMill y = Check.laid("s0,9,0,0;" + times(7, "s1,1,0,0;"));
+        y.halve(0, 1);
+        y.halve(0, 1);
+        for (int i = 0; i < 10; i++) due("ten in the queue", y.queue(9 - i), i + 1);
+        due("one of ten again", y.queue(3), NO);
+        due("ten stop", y.stops(0), 1);
+        due("ten end", y.stops(1), 1);
     }
 
     private static void noQueue() {
@@ -545,6 +556,7 @@ public final class PromiseTest {
         due("of new ones, too", Check.laid("s0,1,0,0;s0,1,0,0;s0,1,0,0;s0,1,0,0;s1,3,0,0;").halvings(), 2);
         due("not enough to halve", Check.laid("s0,9,0,0;s0,9,0,0;s0,9,0,0;s0,9,0,0;s1,2,0,0;").halvings(), NONE);
         due("of two kinds", Check.laid("s0,1,0,0;s0,1,0,0;s0,1,0,0;s0,1,0,0;s0,1,0,0;s1,2,0,0;s2,2,0,0;").halvings(), 2);
+        due("the others come first", Check.laid("s1,2,0,0;s0,1,0,0;s0,1,0,0;s0,1,0,0;").halvings(), 1);
         due("one kind alone", Check.laid("s0,9,0,0;s0,9,0,0;").halvings(), NONE);
         due("more than ten sacks", Check.laid(times(7, "s0,1,0,0;") + "s1,9,0,0;").halvings(), 5);
         MixedMill x = Check.laid("s0,5,0,0;s0,5,0,0;s1,5,0,0;");
