@@ -19,7 +19,29 @@ public final class ModelTest {
             triedMost = run % 100 == 0 ? 10 : 7;
             oneRun();
         }
+        tenSacks("s0,3,0,0;s0,2,1,40;s1,5,1,2;s2,1,2,9;s0,4,3,0;s1,2,4,0;s3,6,2,20;s0,1,0,0;", 2, 6);
+        tenSacks("s0,3,0,7;s1,9,1,4;s2,5,1,2;s3,1,2,9;s4,4,3,0;s0,2,4,0;s1,6,2,20;s2,1,0,0;l1;", 1, 6);
+        tenSacks("s0,9,0,30;s0,9,1,0;s0,9,2,0;s0,9,3,0;s0,2,0,0;s1,9,4,60;s1,2,4,0;s1,9,0,0;", 5, 7);
         Check.end();
+    }
+
+    /** All ten wait, and are poured from the first on: too dear for PlainMill to be asked all. */
+    private static void tenSacks(String text, int halved, int alsoHalved) {
+        mill = new MixedMill();
+        plain = new PlainMill();
+        draws = new Random(1);
+        writeAll(new StringBuilder(text));
+        same("lay()", mill.lay(), plain.lay());
+        same("halve()", mill.halve(halved, 1), plain.halve(halved, 1));
+        same("halve()", mill.halve(alsoHalved, 1), plain.halve(alsoHalved, 1));
+        for (int poured = 0; poured < 2; poured++) {
+            same("orders()", mill.orders(), plain.orders());
+            same("most(-2)", mill.most(-2), plain.most(-2));
+            same("most(9)", mill.most(9), plain.most(9));
+            same("twoMills(0)", mill.twoMills(0), plain.twoMills(0));
+            same("twoMills(1)", mill.twoMills(1), plain.twoMills(1));
+            same("pour(0)", mill.pour(0), plain.pour(0));
+        }
     }
 
     private static void oneRun() {

@@ -414,6 +414,13 @@ public final class PromiseTest {
         due("one of ten again", y.queue(3), NO);
         due("ten stop", y.stops(0), 1);
         due("ten end", y.stops(1), 1);
+        MixedMill z = Check.laid("s0,5,0,0;s1,5,0,0;s2,1,0,0;s3,1,0,0;s2,1,0,0;s3,1,0,0;s2,1,0,0;s3,1,0,0;");
+        z.halve(0, 1);
+        z.halve(1, 1);
+        for (int i = 0; i < 10; i++) due("ten in the queue", z.queue(i), i + 1);
+        due("ten stop nowhere", z.stops(0), NONE);
+        due("all ten end", z.stops(1), 16);
+        due("bread of ten", z.stops(2), 4);
     }
 
     private static void noQueue() {
@@ -547,6 +554,7 @@ public final class PromiseTest {
         x.pour(0);
         due("from now on", x.most(-2), 9);
         due("by TWO", Check.laid("s0,3,0,0;s0,2,0,0;s1,4,0,0;l1;").most(-2), 6);
+        due("one order of the first two is sooner", Check.laid("s0,1,0,9;s1,9,0,0;s2,1,0,10;").most(-2), 11);
         due("all at once", Check.laid("s0,9,0,99;s1,9,0,99;").most(-2), 117);
     }
 
@@ -699,6 +707,10 @@ public final class PromiseTest {
         w.pour(0);
         w.pour(1);
         twoMillsAre("the other one is from hour 0 on", w, 100, 0);
+        MixedMill ten = Check.laid("s0,3,0,0;s1,2,0,0;s0,1,0,0;s1,1,0,0;s0,1,0,0;s1,1,0,0;s0,1,0,0;s1,1,0,0;");
+        ten.halve(0, 2);
+        ten.halve(1, 1);
+        twoMillsAre("ten", ten, 6, 31);
     }
 
     private static void year() {
