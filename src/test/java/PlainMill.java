@@ -8,7 +8,7 @@ import java.util.TreeSet;
 import java.util.regex.Matcher;
 import java.util.regex.Pattern;
 
-/** The document once more, by trying everything: slow, and written without a look at MixedMill. */
+/** The document once more, by trying everything: slow, and sharing nothing with MixedMill but its author's reading. */
 final class PlainMill {
     static final int BAD = -1, NO = -2, FULL = -3, NONE = -4;
 
