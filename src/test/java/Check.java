@@ -17,17 +17,24 @@ final class Check {
         due(what, holds ? 1 : 0, 1);
     }
 
-    /** Writes a text of characters 0 to 255, up to eight a call. */
+    /** Makes a text of characters 0 to 255 THE TEXT. */
     static void tell(MixedMill mill, String text) {
         mill.wipe();
+        add(mill, text);
+    }
+
+    /** Writes a text behind THE TEXT, up to eight bytes a call: what the last of these calls answered. */
+    static int add(MixedMill mill, String text) {
+        int answer = mill.count(7);
         for (int from = 0; from < text.length(); from += 8) {
             int to = Math.min(text.length(), from + 8);
             long v = 0;
             for (int p = from; p < to; p++) {
                 v = v << 8 | text.charAt(p);
             }
-            mill.write(to - from, v);
+            answer = mill.write(to - from, v);
         }
+        return answer;
     }
 
     static MixedMill laid(String text) {

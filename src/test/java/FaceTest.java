@@ -29,8 +29,7 @@ public final class FaceTest {
 
     private static void methods() {
         TreeSet<String> face = new TreeSet<>(java.util.List.of(FACE));
-        TreeSet<String> names = new TreeSet<>();
-        for (String row : FACE) names.add(row.substring(row.indexOf(' ') + 1, row.indexOf('(')));
+        TreeSet<String> names = namesOfFace();
         for (Method m : MixedMill.class.getDeclaredMethods()) {
             if (Modifier.isPrivate(m.getModifiers())) {
                 Check.isTrue(m + " bears no public name", !names.contains(m.getName()));
@@ -42,6 +41,12 @@ public final class FaceTest {
             Check.isTrue(m + " is public, of the object", m.getModifiers() == Modifier.PUBLIC);
         }
         Check.isTrue("the face lacks " + face, face.isEmpty());
+    }
+
+    private static TreeSet<String> namesOfFace() {
+        TreeSet<String> names = new TreeSet<>();
+        for (String row : FACE) names.add(row.substring(row.indexOf(' ') + 1, row.indexOf('(')));
+        return names;
     }
 
     private static void constructors() {
@@ -68,6 +73,12 @@ public final class FaceTest {
         for (Class<?> c : inside) {
             Check.isTrue(c + " is static", Modifier.isStatic(c.getModifiers()));
             Check.isTrue(c + " is hidden", !Modifier.isPublic(c.getModifiers()) && !Modifier.isProtected(c.getModifiers()));
+            for (Method m : c.getDeclaredMethods()) {
+                Check.isTrue(m + " bears no public name", !namesOfFace().contains(m.getName()));
+            }
+            for (Field f : c.getDeclaredFields()) {
+                Check.isTrue(f + " is no static state", !Modifier.isStatic(f.getModifiers()) || Modifier.isFinal(f.getModifiers()));
+            }
         }
     }
 }

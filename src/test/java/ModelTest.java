@@ -2,22 +2,28 @@ import java.util.Random;
 
 /** Random runs of calls at MixedMill and at PlainMill: every answer must be the same. */
 public final class ModelTest {
+    /** An object is used for 512 calls; the dearest step and the look at the end need less than what is left. */
+    private static final int CALLS_BEFORE_LAST_STEP = 230;
+    private static final int[] FAR_OFF = Story.FAR_OFF;
     private static Random draws;
     private static MixedMill mill;
     private static PlainMill plain;
     private static int run;
+    private static int callsMade;
     /** Rows of more sacks than this are too many for PlainMill to try often. */
     private static int triedMost;
 
     private ModelTest() { }
 
     public static void main(String[] args) {
-        for (run = 0; run < 1200 && Check.wrongSoFar() < 20; run++) {
+        for (run = 0; run < 6000 && Check.wrongSoFar() < 20; run++) {
             draws = new Random(run);
             mill = new MixedMill();
             plain = new PlainMill();
-            triedMost = run % 100 == 0 ? 10 : 7;
+            callsMade = 0;
+            triedMost = run % 400 == 0 ? 10 : 7;
             oneRun();
+            Check.isTrue("512 calls at most", callsMade <= 512);
         }
         tenSacks("s0,3,0,0;s0,2,1,40;s1,5,1,2;s2,1,2,9;s0,4,3,0;s1,2,4,0;s3,6,2,20;s0,1,0,0;", 2, 6);
         tenSacks("s0,3,0,7;s1,9,1,4;s2,5,1,2;s3,1,2,9;s4,4,3,0;s0,2,4,0;s1,6,2,20;s2,1,0,0;l1;", 1, 6);
@@ -45,10 +51,9 @@ public final class ModelTest {
     }
 
     private static void oneRun() {
-        lookAtAll();
-        int calls = 60 + draws.nextInt(60);
-        for (int c = 0; c < calls; c++) {
-            int what = draws.nextInt(40);
+        if (draws.nextInt(8) != 0) newText();
+        while (callsMade < CALLS_BEFORE_LAST_STEP) {
+            int what = draws.nextInt(41);
             if (what < 3) {
                 newText();
             } else if (what < 13) {
@@ -72,18 +77,25 @@ public final class ModelTest {
                 same("keep()", mill.keep(), plain.keep());
             } else if (what == 37) {
                 same("back()", mill.back(), plain.back());
+            } else if (what == 38) {
+                int n = somethingNear(8);
+                long v = draws.nextLong();
+                same("write(" + n + ", " + v + ")", mill.write(n, v), plain.write(n, v));
             } else {
                 lookAhead();
             }
-            lookAtAll();
+            lookAtSome();
         }
+        lookAtAll();
     }
 
     private static void same(String call, long got, long want) {
+        callsMade++;
         Check.due("run " + run + ": " + call, got, want);
     }
 
     private static int somethingNear(int n) {
+        if (draws.nextInt(40) == 0) return draws.nextBoolean() ? draws.nextInt() : FAR_OFF[draws.nextInt(FAR_OFF.length)];
         return draws.nextInt(n + 2) - 1;
     }
 
@@ -122,6 +134,16 @@ public final class ModelTest {
             same("write(" + n + ", " + v + ")", mill.write(n, v), plain.write(n, v));
             from += n;
         }
+    }
+
+    private static void lookAtSome() {
+        int i = somethingNear(10);
+        int w = somethingNear(5);
+        same("sack(" + i + ", " + w + ")", mill.sack(i, w), plain.sack(i, w));
+        same("may(" + i + ")", mill.may(i), plain.may(i));
+        same("count(" + i + ")", mill.count(i), plain.count(i));
+        same("stops(" + w + ")", mill.stops(w), plain.stops(w));
+        same("cost()", mill.cost(), plain.cost());
     }
 
     private static void lookAtAll() {

