@@ -43,6 +43,7 @@ public final class AheadEdgeTest {
         twoMillsThisOneNow();
         twoMillsTheOtherOneAt0();
         twoMillsTheLowestSet();
+        whatWasAskedBeforeDoesNotMatter();
         Check.end();
     }
 
@@ -416,5 +417,20 @@ public final class AheadEdgeTest {
         millsAre(Story.laid(kinds("4300"), "sell 0", "pour 1"), 2, 4);
         Story ten = Story.laid("s0,9,0,0;s1,3,0,0;" + kinds("222222"), "halve 0 5", "halve 0 1", "sell 0", "pour 1");
         millsAre(ten.then("sell 2", "sell 3", "sell 4", "sell 5", "sell 6", "sell 7"), 5, 512);
+    }
+
+    /** What was asked when many waited is nothing to what is asked when few do, and the other way round. */
+    private static void whatWasAskedBeforeDoesNotMatter() {
+        String asked = "orders | most -2 | most 0 | halvings | more 0 | lacks 0 | together 0 | grows 0 | twoMills 0 | twoMills 1";
+        Story.laid("s0,9,0,0;s1,1,0,0;s0,1,0,0;", "most -2", "sell 1", "sell 2").due("most -2", 9);
+        for (String law : new String[] {"l0;", "l1;"}) {
+            Story many = Story.laid(EIGHT + law, "halve 0 1", "halve 0 1");
+            Story manyAsked = many.then(asked);
+            for (int i = 9; i >= 1; i--) {
+                many = many.then("sell " + i);
+                manyAsked = manyAsked.then("sell " + i, asked).same(many);
+            }
+            many.then("undo", "undo").same(manyAsked.then("undo", asked, "undo"));
+        }
     }
 }
