@@ -43,6 +43,7 @@ public final class MixedMill {
     private final Ahead ahead;
     private final Hours hours;
     private final Pairs pairs;
+    private final Year drawn;
 
     public MixedMill() {
         text = new byte[TEXT_MOST];
@@ -61,6 +62,7 @@ public final class MixedMill {
         ahead = new Ahead();
         hours = new Hours();
         pairs = new Pairs();
+        drawn = new Year();
         mill.add(0, 2, 0, 0);
         mill.add(1, 3, 1, 0);
         mill.add(0, 1, 0, 5);
@@ -372,7 +374,7 @@ public final class MixedMill {
         if (z < 0 || z > YEAR_DRAWS || n < 1 || n > YEAR_SACKS || what < 0 || what > 1) {
             return BAD;
         }
-        Year drawn = new Year(mill.law);
+        drawn.start(mill.law);
         for (int k = 0; k < n; k++) {
             drawn.bring(drawnKind(z, k));
         }
@@ -1024,14 +1026,18 @@ public final class MixedMill {
 
     /** A year at a mill at which nothing was poured. */
     private static final class Year {
-        private final int law;
+        private int law;
         private final int[] putBy = new int[KINDS];
-        private int last = NOTHING;
-        private int before = NOTHING;
+        private int last;
+        private int before;
         private int poured;
 
-        private Year(int law) {
-            this.law = law;
+        private void start(int itsLaw) {
+            law = itsLaw;
+            Arrays.fill(putBy, 0);
+            last = NOTHING;
+            before = NOTHING;
+            poured = 0;
         }
 
         private void bring(int kind) {
